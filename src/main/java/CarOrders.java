@@ -20,8 +20,10 @@ public final class CarOrders {
     private final Plan plan = new Plan();
     private final Pad pad = new Pad();
     private final Row walked = new Row(plan);
-    private final Survey survey = new Survey(plan, walked);
-    private final Filling filling = new Filling(plan, pad, walked);
+    private final Fitting fitting = new Fitting(plan, walked);
+    private final Fewest fewest = new Fewest(plan, walked);
+    private final Most most = new Most(plan, walked);
+    private final Filling filling = new Filling(plan, walked, pad);
     private final Siding siding = new Siding(pad, walked);
     private final Plan firstImage = new Plan();
     private final Plan secondImage = new Plan();
@@ -112,19 +114,19 @@ public final class CarOrders {
         if (i < WHOLE) {
             return OUTSIDE;
         }
-        survey.refresh();
+        fitting.refresh();
         if (i == WHOLE) {
-            return survey.fitting;
+            return fitting.all;
         }
-        return survey.fitting == 0 ? NONE : classAt(survey.firstFitting, i);
+        return fitting.all == 0 ? NONE : classAt(fitting.first, i);
     }
 
     public int least(int i) {
         if (i < WHOLE) {
             return OUTSIDE;
         }
-        survey.refresh();
-        return i == WHOLE ? survey.least : classAt(survey.firstLeast, i);
+        fewest.refresh();
+        return i == WHOLE ? fewest.least : classAt(fewest.first, i);
     }
 
     public int clash() {
@@ -138,23 +140,23 @@ public final class CarOrders {
     }
 
     public int orders(int what) {
-        if (what < 0 || what > 2) {
-            return OUTSIDE;
-        }
-        survey.refresh();
         switch (what) {
             case 0:
-                return survey.all;
+                return plan.orderCount();
             case 1:
-                return survey.most;
+                most.refresh();
+                return most.most;
+            case 2:
+                fewest.refresh();
+                return fewest.all;
             default:
-                return survey.withLeast;
+                return OUTSIDE;
         }
     }
 
     public int at(int i) {
-        survey.refresh();
-        return survey.fitting == 0 ? NONE : classAt(survey.fittingSets, i);
+        fitting.refresh();
+        return fitting.all == 0 ? NONE : classAt(fitting.sets, i);
     }
 
     // ---- 3 the rule
@@ -163,11 +165,7 @@ public final class CarOrders {
         if (i < WHOLE) {
             return OUTSIDE;
         }
-        int cars = plan.cars();
-        walked.start();
-        for (int place = 0; place < cars; place++) {
-            walked.put(walked.ruleClass());
-        }
+        walked.takeRule(plan.cars());
         return i == WHOLE ? walked.breaks() : classAt(walked.classes, i);
     }
 
@@ -175,11 +173,11 @@ public final class CarOrders {
         if (i < WHOLE) {
             return OUTSIDE;
         }
-        survey.refresh();
-        if (survey.fitting == 0) {
+        fitting.refresh();
+        if (fitting.all == 0) {
             return NONE;
         }
-        return i == WHOLE ? survey.near : classAt(survey.firstNear, i);
+        return i == WHOLE ? fitting.near : classAt(fitting.firstNear, i);
     }
 
     // ---- 4 the pad, the lane
@@ -300,7 +298,9 @@ public final class CarOrders {
 
     /** What was found out of ORDERS no longer holds once OPTIONS, CLASSES or DEMANDS are others. */
     private void forgetOrders() {
-        survey.forget();
+        fitting.forget();
+        fewest.forget();
+        most.forget();
         filling.forget();
     }
 
@@ -400,6 +400,30 @@ public final class CarOrders {
             return may[option] * (cars / width) + Math.min(may[option], cars % width);
         }
 
+        /** How many ORDERS there are: for CLASS after CLASS, in how many ways its CARS can stand among those so far. */
+        int orderCount() {
+            int ways = 1;
+            int cars = 0;
+            for (int cls = 0; cls < CLASS_COUNT; cls++) {
+                for (int car = 1; car <= demands[cls]; car++) {
+                    cars++;
+                    ways = ways * cars / car;
+                }
+            }
+            return ways;
+        }
+
+        /** No ORDER has more BREAKS whose last CAR stands behind the first so many. */
+        int breaksBehind(int place, int cars) {
+            int breaks = 0;
+            for (int option = 0; option < OPTION_COUNT; option++) {
+                if (wanted(option) > may[option]) {
+                    breaks += Math.max(0, cars - Math.max(place, of[option] - 1));
+                }
+            }
+            return breaks;
+        }
+
         /** BREAKS whose last CAR is the last one of a ROW with this trail. */
         int breaksAtEnd(int trail, int length) {
             int breaks = 0;
@@ -485,6 +509,13 @@ public final class CarOrders {
             breaks[length] = before + plan.breaksAtEnd(trail, length);
         }
 
+        void takeRule(int cars) {
+            start();
+            for (int place = 0; place < cars; place++) {
+                put(ruleClass());
+            }
+        }
+
         void drop() {
             if (length > 0) {
                 length--;
@@ -521,7 +552,10 @@ public final class CarOrders {
             int best = 0;
             for (int cls = 0; cls < CLASS_COUNT; cls++) {
                 if (left[cls] > 0) {
-                    int rank = ruleRank(cls);
+                    int come = plan.breaksAtEnd(trailWith(cls), length + 1);
+                    int lacking = OPTION_COUNT - Integer.bitCount(plan.sets[cls]);
+                    // What THE RULE looks at later has a lower decimal place, so that it weighs less.
+                    int rank = 100 * come + 10 * lacking + CAR_LIMIT - left[cls];
                     if (taken == NONE || rank < best) {
                         taken = cls;
                         best = rank;
@@ -531,37 +565,22 @@ public final class CarOrders {
             return taken;
         }
 
-        /** Less for a CLASS that THE RULE takes rather; what weighs less has a lower decimal place. */
-        private int ruleRank(int cls) {
-            int come = plan.breaksAtEnd(trailWith(cls), length + 1);
-            int lacking = OPTION_COUNT - Integer.bitCount(plan.sets[cls]);
-            return 100 * come + 10 * lacking + CAR_LIMIT - left[cls];
-        }
-
         private int trailWith(int cls) {
             return trails[length] << OPTION_COUNT | plan.sets[cls];
         }
     }
 
-    /** What is told of all ORDERS, found out on one walk through them, the first one first. */
-    private static final class Survey {
-        private final Plan plan;
-        private final Row row;
-        private final int[] firstFitting = new int[CAR_LIMIT];
-        private final int[] firstLeast = new int[CAR_LIMIT];
-        private final int[] firstNear = new int[CAR_LIMIT];
-        /** The CLASSES at each place of those that FIT. */
-        private final int[] fittingSets = new int[CAR_LIMIT];
-        private int cars = 0;
-        private int all = 0;
-        private int least = 0;
-        private int withLeast = 0;
-        private int most = 0;
-        private int fitting = 0;
-        private int near = 0;
+    /**
+     * A walk through the ORDERS, the first one first, that leaves out those that begin in a way that can't matter. What
+     * it found out is known till it is told to forget.
+     */
+    private abstract static class Walk {
+        final Plan plan;
+        final Row row;
+        int cars = 0;
         private boolean known = false;
 
-        Survey(Plan plan, Row row) {
+        Walk(Plan plan, Row row) {
             this.plan = plan;
             this.row = row;
         }
@@ -575,121 +594,175 @@ public final class CarOrders {
                 return;
             }
             cars = plan.cars();
-            all = 0;
-            withLeast = 0;
-            most = 0;
-            fitting = 0;
-            for (int place = 0; place < CAR_LIMIT; place++) {
-                fittingSets[place] = 0;
-            }
+            begin();
             row.start();
-            walk(0, 0);
+            goOn(0);
             known = true;
         }
 
-        private void walk(int place, int off) {
-            if (place >= cars) {
-                noteOrder(off);
+        private void goOn(int place) {
+            if (!matters(place)) {
                 return;
             }
-            // OFF is asked only of ORDERS that FIT: behind a BREAK it need not be right.
-            int ruled = row.breaks() == 0 ? row.ruleClass() : NONE;
+            if (place >= cars) {
+                note();
+                return;
+            }
             for (int cls = 0; cls < CLASS_COUNT; cls++) {
                 if (row.left[cls] > 0) {
                     row.put(cls);
-                    walk(place + 1, cls == ruled ? off : off + 1);
+                    goOn(place + 1);
                     row.drop();
                 }
             }
         }
 
-        private void noteOrder(int off) {
-            int breaks = row.breaks();
-            if (all == 0 || breaks < least) {
-                least = breaks;
-                withLeast = 0;
-                keepRow(firstLeast);
-            }
-            if (breaks == least) {
-                withLeast++;
-            }
-            most = Math.max(most, breaks);
-            all++;
-            if (breaks == 0) {
-                noteFitting(off);
+        void keepRow(int[] places) {
+            System.arraycopy(row.classes, 0, places, 0, CAR_LIMIT);
+        }
+
+        abstract void begin();
+
+        /** Whether an ORDER that begins with the CARS in the row, up to this place, can matter. */
+        abstract boolean matters(int place);
+
+        /** The row is an ORDER that matters. */
+        abstract void note();
+    }
+
+    /** ORDERS that FIT. */
+    private static final class Fitting extends Walk {
+        private final int[] first = new int[CAR_LIMIT];
+        private final int[] firstNear = new int[CAR_LIMIT];
+        /** The CLASSES at each place. */
+        private final int[] sets = new int[CAR_LIMIT];
+        /** What THE RULE takes behind the first n CARS, at n. */
+        private final int[] ruled = new int[CAR_LIMIT + 1];
+        /** OFF of the first n CARS, at n. */
+        private final int[] off = new int[CAR_LIMIT + 1];
+        private int all = 0;
+        private int near = 0;
+
+        Fitting(Plan plan, Row row) {
+            super(plan, row);
+        }
+
+        void begin() {
+            all = 0;
+            for (int place = 0; place < CAR_LIMIT; place++) {
+                sets[place] = 0;
             }
         }
 
-        private void noteFitting(int off) {
-            if (fitting == 0) {
-                keepRow(firstFitting);
+        boolean matters(int place) {
+            if (row.breaks() > 0) {
+                return false;
             }
-            if (fitting == 0 || off < near) {
-                near = off;
+            if (place > 0) {
+                int more = row.classes[place - 1] == ruled[place - 1] ? 0 : 1;
+                off[place] = off[place - 1] + more;
+            }
+            ruled[place] = row.ruleClass();
+            return true;
+        }
+
+        void note() {
+            if (all == 0) {
+                keepRow(first);
+            }
+            if (all == 0 || off[cars] < near) {
+                near = off[cars];
                 keepRow(firstNear);
             }
-            fitting++;
+            all++;
             for (int place = 0; place < cars; place++) {
-                fittingSets[place] |= 1 << row.classes[place];
+                sets[place] |= 1 << row.classes[place];
             }
-        }
-
-        private void keepRow(int[] places) {
-            System.arraycopy(row.classes, 0, places, 0, CAR_LIMIT);
         }
     }
 
-    /** What is FILLED, found out on one walk, the first ORDER first. */
-    private static final class Filling {
-        private final Plan plan;
+    /** ORDERS with LEAST. */
+    private static final class Fewest extends Walk {
+        private final int[] first = new int[CAR_LIMIT];
+        private int least = 0;
+        private int all = 0;
+
+        Fewest(Plan plan, Row row) {
+            super(plan, row);
+        }
+
+        void begin() {
+            // LEAST is no more than what THE RULE comes to: so much can be left out from the start.
+            row.takeRule(cars);
+            least = row.breaks();
+            all = 0;
+        }
+
+        boolean matters(int place) {
+            return row.breaks() <= least;
+        }
+
+        void note() {
+            if (all == 0 || row.breaks() < least) {
+                least = row.breaks();
+                all = 0;
+                keepRow(first);
+            }
+            all++;
+        }
+    }
+
+    /** The most BREAKS that any ORDER has. */
+    private static final class Most extends Walk {
+        private int most = 0;
+        /** How many BREAKS could come behind the first n CARS, at n. */
+        private final int[] toCome = new int[CAR_LIMIT + 1];
+
+        Most(Plan plan, Row row) {
+            super(plan, row);
+        }
+
+        void begin() {
+            most = 0;
+            for (int place = 0; place <= CAR_LIMIT; place++) {
+                toCome[place] = plan.breaksBehind(place, cars);
+            }
+        }
+
+        boolean matters(int place) {
+            return row.breaks() + toCome[place] > most;
+        }
+
+        void note() {
+            most = row.breaks();
+        }
+    }
+
+    /** ORDERS that are FILLED. */
+    private static final class Filling extends Walk {
         private final Pad pad;
-        private final Row row;
         private final int[] first = new int[CAR_LIMIT];
         private int all = 0;
-        private boolean known = false;
 
-        Filling(Plan plan, Pad pad, Row row) {
-            this.plan = plan;
+        Filling(Plan plan, Row row, Pad pad) {
+            super(plan, row);
             this.pad = pad;
-            this.row = row;
         }
 
-        void forget() {
-            known = false;
-        }
-
-        void refresh() {
-            if (known) {
-                return;
-            }
+        void begin() {
             all = 0;
-            if (pad.length == plan.cars()) {
-                row.start();
-                walk(0);
-            }
-            known = true;
         }
 
-        private void walk(int place) {
-            if (row.breaks() > 0) {
-                return;
+        boolean matters(int place) {
+            if (pad.length != cars || row.breaks() > 0) {
+                return false;
             }
-            if (place >= pad.length) {
-                noteOrder();
-                return;
-            }
-            for (int cls = 0; cls < CLASS_COUNT; cls++) {
-                if (row.left[cls] > 0 && pad.allows(place, cls)) {
-                    row.put(cls);
-                    walk(place + 1);
-                    row.drop();
-                }
-            }
+            return place == 0 || pad.allows(place - 1, row.classes[place - 1]);
         }
 
-        private void noteOrder() {
+        void note() {
             if (all == 0) {
-                System.arraycopy(row.classes, 0, first, 0, CAR_LIMIT);
+                keepRow(first);
             }
             all++;
         }
