@@ -319,6 +319,11 @@ public final class PromiseTest {
         CarOrders both = with(3, 3);
         due("least(-1), of all options, added", both.least(-1), 4);
         dueRow("least", both::least, "000");
+        CarOrders late = with(1, 2, 0, 2);
+        late.option(0, 1, 3);
+        due("least(-1), less than the rule comes to", late.least(-1), 0);
+        due("orders(2)", late.orders(2), 1);
+        dueRow("least", late::least, "0110");
         CarOrders full = with(8, 0, 0, 0, 0, 0, 0, 0, 8, 9);
         full.option(3, 4, 5);
         due("least(-1)", full.least(-1), 5);
@@ -389,6 +394,12 @@ public final class PromiseTest {
         due("at(0), fewer places", y.at(0), 1);
         due("at(2), fewer places", y.at(2), 1);
         due("at(3), fewer places", y.at(3), NONE);
+        CarOrders z = with(1, 2, 0, 3);
+        due("at(0)", z.at(0), 1 + 2);
+        z.demand(1, 2);
+        z.demand(0, 3);
+        due("at(0), no longer all", z.at(0), 1);
+        due("at(4), no longer all", z.at(4), 1);
         due("at(0), no demand", new CarOrders().at(0), NONE);
     }
 
@@ -529,6 +540,8 @@ public final class PromiseTest {
             due("row(" + what + ") with a ?", two.row(what), FAULT);
         }
         due("row(3) with a ?", two.row(3), OUTSIDE);
+        write(two, "?012");
+        due("row(0), a ? at first", two.row(0), FAULT);
         due("row(-1) with a ?", two.row(-1), OUTSIDE);
     }
 
@@ -584,6 +597,12 @@ public final class PromiseTest {
         dueLanes(x, "111000", 2, 1, 0);
         dueLanes(x, "000011111", 3, 2, 1);
         dueLanes(x, "000000000", 8, 8, 8);
+        CarOrders behind = with(1, 4, 0, 1);
+        write(behind, "00011");
+        due("rule(-1)", behind.rule(-1), 2);
+        due("lane(2), behind another call", behind.lane(2), 0);
+        due("rule(-1)", behind.rule(-1), 2);
+        due("lane(0), behind another call", behind.lane(0), 2);
         x.option(0, 2, 2);
         dueLanes(x, "000000000", 0, 0, 0);
         for (int k : new int[] {-1, 3, LOW, HIGH}) {
@@ -595,6 +614,8 @@ public final class PromiseTest {
         due("lane(3) with a ?", x.lane(3), OUTSIDE);
         due("lane(-1) with a ?", x.lane(-1), OUTSIDE);
         due("row(0)", x.row(0), FAULT);
+        write(x, "?0");
+        due("lane(1), a ? at first", x.lane(1), FAULT);
     }
 
     private static void image() {
@@ -681,6 +702,7 @@ public final class PromiseTest {
         due("count(2)", x.count(2), 0);
         due("count(3)", x.count(3), 0);
         due("count(4)", x.count(4), 0);
+        due("count(1), a demand of 1", with(0, 1, 0, 0, 0, 9, 0, 8).count(1), 2);
         String[] pads = {"40404", "00444", "4040", "404044", "40401", "4040?", "?????", "04044", ""};
         int[] areOrders = {1, 1, 0, 0, 0, 0, 0, 1, 0};
         for (int n = 0; n < pads.length; n++) {
