@@ -603,6 +603,10 @@ public final class PromiseTest {
         due("lane(2), behind another call", behind.lane(2), 0);
         due("rule(-1)", behind.rule(-1), 2);
         due("lane(0), behind another call", behind.lane(0), 2);
+        behind.demand(1, 5);
+        write(behind, "00");
+        due("rule(-1), nine cars", behind.rule(-1), 0);
+        due("lane(0), behind nine cars", behind.lane(0), 1);
         x.option(0, 2, 2);
         dueLanes(x, "000000000", 0, 0, 0);
         for (int k : new int[] {-1, 3, LOW, HIGH}) {
