@@ -91,7 +91,8 @@ public final class CallsBoundaryTest {
         Sentences.sentence("Promise 2", "10 times the MAY and the OF that were.", CallsBoundaryTest::optionThatWas);
         Sentences.sentence("Promise 2", "UNKNOWN", CallsBoundaryTest::optionUnknown);
         Sentences.sentence("Promise 2", "OUTSIDE: both.", CallsBoundaryTest::optionOutside);
-        Sentences.sentence("Promise 3", "OPTIONS of a CLASS are a set: which they were.", CallsBoundaryTest::setThatWas);
+        Sentences.sentence("Promise 3", "OPTIONS of a CLASS are a set: which they were.",
+            CallsBoundaryTest::setThatWas);
         Sentences.sentence("Promise 3", "UNKNOWN", CallsBoundaryTest::optionsUnknown);
         Sentences.sentence("Promise 3", "OUTSIDE.", CallsBoundaryTest::optionsOutside);
         Sentences.sentence("Promise 4", "DEMAND of a CLASS is n: all DEMANDS, added, then.",
@@ -269,7 +270,8 @@ public final class CallsBoundaryTest {
     private static void fits() {
         String where = "Promise 7";
         Sentences.sentence(where, "FITS: how many (i = -1; 0, if none does)", CallsBoundaryTest::fitsHowMany);
-        Sentences.sentence(where, "the CLASS at place i, from 0 on, of the first that FITS", CallsBoundaryTest::fitsFirst);
+        Sentences.sentence(where, "the CLASS at place i, from 0 on, of the first that FITS",
+            CallsBoundaryTest::fitsFirst);
         Sentences.sentence(where, "NONE: none FITS", CallsBoundaryTest::fitsNone);
         Sentences.sentence(where, "or there is no such place.", CallsBoundaryTest::fitsNoPlace);
         Sentences.sentence(where, "OUTSIDE: i is below -1.", CallsBoundaryTest::fitsOutside);
@@ -411,6 +413,7 @@ public final class CallsBoundaryTest {
         due("orders(2), none fits", with(1, 3, 0, 1).orders(2), 2);
         due("orders(2), one order", with(15, 9).orders(2), 1);
         due("orders(2), those that fit", with(1, 2, 0, 3).orders(2), 6);
+        due("orders(2), one, behind worse ones", with("1 of 3", 1, 2, 0, 2).orders(2), 1);
     }
 
     private static void ordersOutside() {
@@ -422,7 +425,8 @@ public final class CallsBoundaryTest {
 
     private static void at() {
         String where = "Promise 11";
-        Sentences.sentence(where, "CLASSES (a set, bits 0 to 4) that are at place i, from 0 on, of some ORDER that FITS",
+        Sentences.sentence(where,
+            "CLASSES (a set, bits 0 to 4) that are at place i, from 0 on, of some ORDER that FITS",
             CallsBoundaryTest::atSets);
         Sentences.sentence(where, "NONE: none FITS", CallsBoundaryTest::atNone);
         Sentences.sentence(where, "or there is no such place", CallsBoundaryTest::atNoPlace);
@@ -634,7 +638,8 @@ public final class CallsBoundaryTest {
     private static void row() {
         String where = "Promise 16";
         Sentences.sentence(where, "BREAKS of the ROW on THE PAD (what = 0)", CallsBoundaryTest::rowBreaks);
-        Sentences.sentence(where, "the least place, from 0 on, at which the last CAR of a BREAK stands (1; NONE: it has none)",
+        Sentences.sentence(where,
+            "the least place, from 0 on, at which the last CAR of a BREAK stands (1; NONE: it has none)",
             CallsBoundaryTest::rowFirstBreak);
         Sentences.sentence(where, "OFF, if it is an ORDER (2; NONE: it is none).", CallsBoundaryTest::rowOff);
         Sentences.sentence(where, "OUTSIDE", CallsBoundaryTest::rowOutside);
@@ -789,6 +794,11 @@ public final class CallsBoundaryTest {
             due("row(0) of " + pads[n] + ": the pad stays", x.row(0), dues[n][0]);
             due("count(2) of " + pads[n] + ": the pad stays", x.count(2), pads[n].length());
         }
+        CarOrders x = write(with(1, 5, 0, 4), "00");
+        due("rule(-1), nine cars", x.rule(-1), 0);
+        due("lane(0), two cars, behind nine", x.lane(0), 1);
+        due("fits(-1), nine cars", x.fits(-1), 1);
+        due("lane(2), two cars, behind nine", x.lane(2), 1);
     }
 
     private static void laneOutside() {
@@ -813,7 +823,8 @@ public final class CallsBoundaryTest {
 
     private static void images() {
         String kept = "Promise 19";
-        Sentences.sentence(kept, "All but THE PAD and IMAGES is kept in an IMAGE (0, 1)", CallsBoundaryTest::imageKeeps);
+        Sentences.sentence(kept, "All but THE PAD and IMAGES is kept in an IMAGE (0, 1)",
+            CallsBoundaryTest::imageKeeps);
         Sentences.sentence(kept, "in place of what was kept there: 1.", CallsBoundaryTest::imageInPlace);
         Sentences.sentence(kept, "OUTSIDE.", CallsBoundaryTest::imageOutside);
         String restored = "Promise 20";
@@ -935,7 +946,27 @@ public final class CallsBoundaryTest {
             due("count(4): both images stay", x.count(4), 3);
             due("restore(" + (1 - k) + "): it stays as it was kept", x.restore(1 - k), 1);
             due("told(2, 1)", x.told(2, 1), 4);
+            restoredOptionBreaks(k);
         }
+    }
+
+    /** MAY and OF that are restored are those by which BREAKS are counted. */
+    private static void restoredOptionBreaks(int k) {
+        CarOrders x = write(with("1 of 2", 1, 2, 0, 1), "010");
+        x.image(k);
+        x.option(0, 1, 3);
+        due("row(0), 1 of 3", x.row(0), 1);
+        due("fits(-1), 1 of 3", x.fits(-1), 0);
+        x.image(1 - k);
+        x.restore(k);
+        due("row(0), 1 of 2 again", x.row(0), 0);
+        due("fits(-1), 1 of 2 again", x.fits(-1), 1);
+        due("filled(-1), 1 of 2 again", x.filled(-1), 1);
+        due("orders(1), 1 of 2 again", x.orders(1), 1);
+        x.restore(1 - k);
+        due("row(0), 1 of 3 again", x.row(0), 1);
+        due("fits(-1), 1 of 3 again", x.fits(-1), 0);
+        due("least(-1), 1 of 3 again", x.least(-1), 1);
     }
 
     private static void imageStays() {

@@ -574,7 +574,8 @@ public final class TermsBoundaryTest {
             TermsBoundaryTest::wanted);
         Sentences.sentence(where, "MAY times n by OF, n by OF being cut first", TermsBoundaryTest::roomIsCutFirst);
         Sentences.sentence(where, "the lesser one of MAY and what n leaves by OF", TermsBoundaryTest::theLesserOne);
-        Sentences.sentence(where, "(No ROW of n CARS without a BREAK has more with the OPTION, if n is no less than OF.)",
+        Sentences.sentence(where,
+            "(No ROW of n CARS without a BREAK has more with the OPTION, if n is no less than OF.)",
             TermsBoundaryTest::noRowHasMore);
     }
 
@@ -668,7 +669,8 @@ public final class TermsBoundaryTest {
         Sentences.sentence(where, "of such that with most OPTIONS", TermsBoundaryTest::mostOptions);
         Sentences.sentence(where, "of such that of which most CARS are left", TermsBoundaryTest::mostCarsLeft);
         Sentences.sentence(where, "of such the least.", TermsBoundaryTest::theLeastClass);
-        Sentences.sentence(where, "behind those CARS of the ORDER that are ahead", TermsBoundaryTest::offBehindTheOrder);
+        Sentences.sentence(where, "behind those CARS of the ORDER that are ahead",
+            TermsBoundaryTest::offBehindTheOrder);
         Sentences.sentence(where, "NEAR: the least OFF of those that FIT.", TermsBoundaryTest::nearOfThoseThatFit);
     }
 
@@ -764,7 +766,8 @@ public final class TermsBoundaryTest {
             TermsBoundaryTest::theClassThatIsTold);
         Sentences.sentence(where, "CARS come as a ROW, told by THE PAD (without ?), one after the other.",
             TermsBoundaryTest::carsCome);
-        Sentences.sentence(where, "a LANE with K places (0 to 2), empty at first.", TermsBoundaryTest::laneEmptyAtFirst);
+        Sentences.sentence(where, "a LANE with K places (0 to 2), empty at first.",
+            TermsBoundaryTest::laneEmptyAtFirst);
         Sentences.sentence(where, "the next CAR that comes goes on", TermsBoundaryTest::theNextGoesOn);
         Sentences.sentence(where, "or it goes into the LANE, if there is room", TermsBoundaryTest::ifThereIsRoom);
         Sentences.sentence(where, "or a CAR that is in the LANE, any one, goes on", TermsBoundaryTest::anyOneGoesOn);
