@@ -28,6 +28,7 @@ public final class OracleTest {
         for (int seed = 0; seed < 300; seed++) {
             lanesOf(seed);
         }
+        shortRows();
         System.out.println(asked + " answers, " + wrong + " of them not as due");
         if (wrong != 0) {
             System.exit(1);
@@ -141,6 +142,52 @@ public final class OracleTest {
                 askPad(pair);
             }
         }
+    }
+
+    /** All that two options and up to four cars of two classes can be: some rows shorter than one OF, not the other. */
+    private static void shortRows() {
+        for (int firstOf = 1; firstOf <= 5; firstOf++) {
+            for (int firstMay = 1; firstMay <= firstOf; firstMay++) {
+                for (int secondOf = 1; secondOf <= 5; secondOf++) {
+                    for (int secondMay = 1; secondMay <= secondOf; secondMay++) {
+                        shortRows(firstMay, firstOf, secondMay, secondOf);
+                    }
+                }
+            }
+        }
+    }
+
+    private static void shortRows(int firstMay, int firstOf, int secondMay, int secondOf) {
+        for (int sets = 0; sets < 16; sets++) {
+            Pair pair = new Pair("short rows");
+            pair.both("option", 0, firstMay, firstOf);
+            pair.both("option", 3, secondMay, secondOf);
+            pair.both("options", 1, setOfFirstAndLast(sets & 3), 0);
+            pair.both("options", 4, setOfFirstAndLast(sets >> 2), 0);
+            for (int cars = 1; cars <= 4; cars++) {
+                for (int ofFirst = 0; ofFirst <= cars; ofFirst++) {
+                    pair.both("demand", 1, 0, 0);
+                    pair.both("demand", 4, cars - ofFirst, 0);
+                    pair.both("demand", 1, ofFirst, 0);
+                    askWhole(pair);
+                }
+            }
+        }
+    }
+
+    private static int setOfFirstAndLast(int two) {
+        return two & 1 | (two & 2) << 2;
+    }
+
+    private static void askWhole(Pair pair) {
+        for (String call : new String[] {"fits", "least", "rule", "near"}) {
+            pair.both(call, -1, 0, 0);
+            pair.both(call, 1, 0, 0);
+        }
+        pair.both("at", 0, 0, 0);
+        pair.both("orders", 1, 0, 0);
+        pair.both("orders", 2, 0, 0);
+        pair.both("clash", 0, 0, 0);
     }
 
     private static void shuffleSome(int[] row, Random random, int swaps) {

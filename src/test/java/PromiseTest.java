@@ -372,6 +372,12 @@ public final class PromiseTest {
         due("orders(1), of all options, added", both.orders(1), 3);
         due("orders(2)", both.orders(2), 1);
         due("least(-1)", both.least(-1), 2);
+        CarOrders few = with(9, 1, 9, 1);
+        few.option(0, 1, 5);
+        due("orders(1), fewer cars than one OF", few.orders(1), 1);
+        due("orders(2)", few.orders(2), 2);
+        few.option(3, 1, 4);
+        due("orders(1), fewer cars than any OF", few.orders(1), 0);
     }
 
     private static void at() {

@@ -497,6 +497,22 @@ public final class TermsBoundaryTest {
         }
         CarOrders two = with("1 of 5", 3, 4);
         due("least(-1): the other option has its breaks", two.least(-1), 3);
+        for (int of = 3; of <= 5; of++) {
+            otherOptionBreaks(with("1 of " + of, 3, 2), of);
+        }
+    }
+
+    /** Two CARS have two OPTIONS; of the one they are fewer than OF, of the other they are a BREAK. */
+    private static void otherOptionBreaks(CarOrders x, int of) {
+        write(x, "00");
+        due("row(0), the other breaks, beside " + of, x.row(0), 1);
+        due("row(1), the other breaks, beside " + of, x.row(1), 1);
+        due("lane(2), the other breaks, beside " + of, x.lane(2), 1);
+        due("fits(-1), the other breaks, beside " + of, x.fits(-1), 0);
+        due("filled(-1), the other breaks, beside " + of, x.filled(-1), 0);
+        due("least(-1), the other breaks, beside " + of, x.least(-1), 1);
+        due("orders(1), the other breaks, beside " + of, x.orders(1), 1);
+        due("rule(-1), the other breaks, beside " + of, x.rule(-1), 1);
     }
 
     private static void breaksAreAdded() {
