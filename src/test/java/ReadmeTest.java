@@ -24,7 +24,7 @@ public final class ReadmeTest {
         int calls = example(lines);
         constants(lines);
         table(lines);
-        System.out.println(wrong == 0 ? calls + " calls, and the tables, are as due" : wrong + " things are not as due");
+        System.out.println(wrong == 0 ? calls + " calls and the tables are as due" : wrong + " things are not as due");
         if (wrong != 0) {
             System.exit(1);
         }
